@@ -28,11 +28,12 @@ public final class DarnedSock {
     private static final int FAULT_BASE = -10, ITEM_BASE = -1000;
 
     private static final int END = 0, WORD = 1, NUMBER = 2, STOP = 3, OTHER = 4;
-    private static final int SOCK_WORD = 0, WEAR_WORD = 1, WORDS = 3;
+    private static final int SOCK_WORD = 0, WEAR_WORD = 1, WORDS = 3, WORD_LENGTH = 4;
+    private static final int[] WORD_LETTERS = {'s', 'o', 'c', 'k', 'w', 'e', 'a', 'r', 'd', 'a', 'r', 'n'};
     private static final int[] WORD_NUMBERS = {1, 2, 4};
     private static final int MOST_NUMBERS = 4, MOST_FIGURES = 2;
-    /** An item has a word of 4 letters, a number and the byte that ends it. */
-    private static final int MOST_ITEMS = MOST_BYTES / 6;
+    /** No item is shorter than a word, a figure and the byte that ends it. */
+    private static final int MOST_ITEMS = MOST_BYTES / (WORD_LENGTH + 2);
 
     private static final long DRAW_TIMES = 1103515245L, DRAW_MORE = 12345L, DRAW_LIMIT = 2147483648L;
 
@@ -309,8 +310,12 @@ public final class DarnedSock {
 
     public int image(int i) {
         if (!within(i, IMAGES)) return refuse(BAD);
-        if (images[i] == null) images[i] = new State();
-        images[i].copy(now);
+        State image = images[i];
+        if (image == null) {
+            image = new State();
+            images[i] = image;
+        }
+        image.copy(now);
         return 1;
     }
 
@@ -699,7 +704,8 @@ public final class DarnedSock {
         }
 
         private int topFamily(int cell) {
-            return isHole(cell) ? NONE : get(cell, many(cell) - 1, FAMILY);
+            int darns = many(cell);
+            return darns <= 0 ? NONE : get(cell, darns - 1, FAMILY);
         }
 
         int claimOf(int family, int law) {
@@ -927,16 +933,16 @@ public final class DarnedSock {
             while (behind < length && behind < MOST_BYTES && isLetter(bytes[behind])) behind++;
             sort = OTHER;
             for (int word = 0; word < WORDS; word++) {
-                if (!spells(wordText(word))) continue;
+                if (!spells(word)) continue;
                 sort = WORD;
                 value = word;
             }
         }
 
-        private boolean spells(String word) {
-            if (behind - at != word.length()) return false;
-            for (int j = 0; j < word.length() && at + j < MOST_BYTES; j++) {
-                if (bytes[at + j] != word.charAt(j)) return false;
+        private boolean spells(int word) {
+            if (!within(word, WORDS) || behind - at != WORD_LENGTH) return false;
+            for (int j = 0; j < WORD_LENGTH && at + j < MOST_BYTES; j++) {
+                if (bytes[at + j] != WORD_LETTERS[WORD_LENGTH * word + j]) return false;
             }
             return true;
         }
@@ -948,14 +954,6 @@ public final class DarnedSock {
                 behind++;
             }
             sort = behind - at > MOST_FIGURES ? OTHER : NUMBER;
-        }
-
-        private static String wordText(int word) {
-            switch (word) {
-                case SOCK_WORD: return "sock";
-                case WEAR_WORD: return "wear";
-                default: return "darn";
-            }
         }
 
         private static boolean isLetter(int b) {

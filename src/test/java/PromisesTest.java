@@ -280,14 +280,16 @@ public final class PromisesTest {
             "sock 100;", "sock 001;", "sock 1;;", "sock 1;sock 2;", "sock 1; darm 1 1 1 1;", "sock 1 2;", "sock 1;wear 1;",
             "sock 1;wear 1 1", "sock 1;wear 1 1 1;", "sock 1;darn 1 1 1;", "sock 1;darn 1 1 1 1 1;", "sock\t1;", "sockA1;",
             "sock 1,", "sock 1;wear 1 1;x", "sock wear", "sock 1; 7", "sock 1;`", "sock 1;{", "sock /", "sock :", "sock -1;",
-            "sock 1;wear 9 9", "sock 1;wear 9 9;wear 1 123;", "sock 1;\0"
+            "sock 1;wear 9 9", "sock 1;wear 9 9;wear 1 123;", "sock 1;\0", "tock 1;", "sock 1;bear 1 1;", "sock 1; barn 1 1 1 1;",
+            "sod", "sock 1;wea", "SOCK 1;"
         };
         int[] faults = {
             0, 3, 4, 6, 8, 0, 0, 1, 0, 0, 0, 4,
             5, 5, 7, 7, 8, 7, 13,
             15, 16, 17, 20, 4, 4,
             6, 16, 5, 8, 7, 7, 5, 5, 5,
-            15, 23, 7
+            15, 23, 7, 0, 7, 8,
+            0, 7, 0
         };
         for (int i = 0; i < texts.length; i++) due("10 fault of \"" + texts[i] + "\"", readOf(texts[i]), -10 - faults[i]);
         DarnedSock x = typed("sock 7; darn 1 1 1 1; darn");
@@ -414,6 +416,11 @@ public final class PromisesTest {
             }
             due("13 line " + i, x.claims(1, 2), i < 8 ? 1 : 0);
             due("13 not the lower ones", x.claims(0, 2), 0);
+            for (int c : lines[i]) {
+                x.darn(c, 0, 2, 3);
+                due("13 two of three are no line", x.claims(1, 2), 0);
+                x.unpick(c);
+            }
         }
         DarnedSock all = new DarnedSock();
         for (int c = 0; c < 9; c++) all.darn(c, 0, 2, 1);
@@ -548,6 +555,10 @@ public final class PromisesTest {
         due("18 the worst cell", x.whole(), 9);
         x.sock(0);
         due("18 holes now", x.whole(), 0);
+        for (int c = 0; c < 9; c++) x.darn(c, 4, 0, 21);
+        due("18 mothed: 2 4 4 2 4 4 2", x.whole(), 7);
+        x.years(1);
+        due("18 a year later", x.whole(), 6);
     }
 
     private static void promise19holes() {
@@ -753,6 +764,10 @@ public final class PromisesTest {
         x.odds(1, 2, 1);
         due("27 mothed in the second year", x.part(0), 1);
         due("27 mothed in the second year", x.part(1), 10);
+        x.darn(2, 4, 0, 8);
+        x.odds(2, 3, 5);
+        due("27 mothed loses 2, 4, 4: the last two, in which it is gone", x.part(0), 1);
+        due("27 mothed loses 2, 4, 4: the last two, in which it is gone", x.part(1), 4);
         x.darn(0, 0, 0, 1);
         x.odds(0, 3, 9);
         due("27 the one under it, too", x.part(0), 729);
