@@ -3,7 +3,7 @@ public final class DarnedSock {
     public static final int NONE = -1, BAD = -2, NO = -3, FULL = -4;
 
     private static final int CELLS = 9, PLACES = 3, KINDS = 6, FAMILIES = 3, LAWS = 4;
-    private static final int MOST_WEAR = 5, MOST_THREAD = 30, SOCK_YEARS = 100, MOST_YEARS = 20;
+    private static final int MOST_WEAR = 5, MOST_THREAD = 30, SOCK_YEARS = 100, MOST_YEARS = 20, ODDS_YEARS = 8;
     private static final int MOST_UNDONE = 8, MOST_READINGS = 6, MOST_BYTES = 150, IMAGES = 2;
     /** Years that are looked at ahead, the present one among them. */
     private static final int SPAN = 41, READ_SPAN = 21;
@@ -280,10 +280,8 @@ public final class DarnedSock {
     }
 
     public int odds(int cell, int m, int c) {
-        if (!within(cell, CELLS) || !between(m, 0, 8) || !between(c, 0, 10)) return refuse(BAD);
-        int top = now.sock.many(cell) - 1;
-        long ways = now.sock.holeWays(cell, top, now.sock.threadAt(cell, top), m, now.sock.year(), c);
-        setFraction(ways, powerOfTen(m));
+        if (!within(cell, CELLS) || !between(m, 0, ODDS_YEARS) || !between(c, 0, 10)) return refuse(BAD);
+        setFraction(now.sock.holeWays(cell, m, c), powerOfTen(m));
         return 1;
     }
 
@@ -764,15 +762,21 @@ public final class DarnedSock {
             return Math.max(left, 0);
         }
 
-        /** Of the ten ways of each year that is left, those by which the cell is a hole at last. */
-        long holeWays(int cell, int place, int thread, int left, int year, int c) {
+        /** Of the ten ways of each of m years, those by which the cell is a hole at last. */
+        long holeWays(int cell, int m, int c) {
+            int top = many(cell) - 1;
+            return waysFrom(cell, top, threadAt(cell, top), m, row[YEAR], c);
+        }
+
+        /** The years that are left bound how deep it goes. */
+        private long waysFrom(int cell, int place, int thread, int left, int year, int c) {
             if (place < 0) return powerOfTen(left);
-            if (left <= 0 || !within(cell, CELLS)) return 0L;
+            if (!between(left, 1, ODDS_YEARS) || !within(cell, CELLS)) return 0L;
             int rest = thread - loss(get(cell, place, KIND), wears[cell], year);
             long worn = rest > 0
-                ? holeWays(cell, place, rest, left - 1, year + 1, c)
-                : holeWays(cell, place - 1, threadAt(cell, place - 1), left - 1, year + 1, c);
-            long unworn = holeWays(cell, place, thread, left - 1, year + 1, c);
+                ? waysFrom(cell, place, rest, left - 1, year + 1, c)
+                : waysFrom(cell, place - 1, threadAt(cell, place - 1), left - 1, year + 1, c);
+            long unworn = waysFrom(cell, place, thread, left - 1, year + 1, c);
             return c * worn + (10 - c) * unworn;
         }
 

@@ -175,6 +175,36 @@ public final class EdgesImagesTest {
         Edges.due("none may be", y.undo(), -3);
     }
 
+    static void promise31_eachOfEightThatMayBeUndoneIsKept() {
+        DarnedSock x = new DarnedSock();
+        for (int c = 0; c < 9; c++) x.darn(c, c % 6, c % 3, c + 1);
+        long[] digests = new long[8];
+        x.image(1);
+        for (int i = 0; i < 8; i++) {
+            x.undo();
+            digests[i] = x.digest();
+        }
+        x.sock(70);
+        for (int i = 0; i < 11; i++) x.years(1);
+        x.from(1);
+        for (int i = 0; i < 8; i++) {
+            x.undo();
+            Edges.due("undone " + (i + 1), x.digest(), digests[i]);
+        }
+        Edges.due("no more", x.undo(), -3);
+    }
+
+    static void promise31_sixReadingsAreKept() {
+        DarnedSock x = new DarnedSock();
+        for (int i = 0; i < 6; i++) x.reading(8 - i, 20 - i, 30 - i);
+        long digest = x.digest();
+        x.image(0);
+        x.forget();
+        for (int i = 0; i < 6; i++) x.reading(i, i, i);
+        x.from(0);
+        Edges.due("digest", x.digest(), digest);
+    }
+
     static void promise31_goingOnLeavesTheImage() {
         DarnedSock x = Edges.lived();
         for (int i = 0; i < 3; i++) {

@@ -149,6 +149,14 @@ public final class EdgesSeenTest {
         Edges.due("20 lost of scrap", seen(0, 0, 20, 10), SCRAP);
     }
 
+    static void promise24_byTheYearsToCome() {
+        Edges.due("from year 0 mothed loses 1, 2, 2, 1", seen(0, 0, 4, 24), MOTHED);
+        Edges.due("from year 1 mothed loses 2, 2", seen(0, 1, 2, 26), MOTHED);
+        Edges.due("from year 1 mothed loses 2, 2, 1", seen(0, 1, 3, 25), MOTHED);
+        Edges.due("from year 2 mothed loses 2, 1", seen(0, 2, 2, 27), MOTHED);
+        Edges.due("from year 2 mothed loses 2, 1, 2", seen(0, 2, 3, 25), MOTHED);
+    }
+
     static void promise24_0IsGone() {
         Edges.due("just used up: 10 years of 3", seen(3, 0, 10, 0), WOOL + SCRAP + MOTHED + LIEN);
         Edges.due("a year ahead of it", seen(3, 0, 9, 0), SCRAP + MOTHED);
@@ -224,6 +232,13 @@ public final class EdgesSeenTest {
         Edges.asks("three pairs from the first year on", () -> one(0, 30, 3), x -> x.look(0), 1);
         Edges.asks("four alike, scrap and mothed apart", () -> one(0, 30, 1), x -> x.look(0), 1);
         Edges.asks("behind 2 all are gone again", () -> one(0, 2, 2), x -> x.look(0), 1);
+    }
+
+    static void promise25_woolAndLienAreAlikeAlways() {
+        DarnedSock x = one(0, 30, 3);
+        x.reading(0, 10, 0);
+        Edges.due("wool, lien, scrap, mothed may be", x.may(0), WOOL + LIEN + SCRAP + MOTHED);
+        Edges.due("two alike behind 1, and no fewer later", x.look(0), 1);
     }
 
     static void promise25_theYearInWhichTheyAreFewest() {
@@ -319,12 +334,29 @@ public final class EdgesSeenTest {
         for (int c = 3; c < 6; c++) x.darn(c, 0, 0, 9);
         Edges.due("three and three", x.orders(511, -1), 36);
         DarnedSock y = new DarnedSock();
-        for (int c = 5; c >= 0; c--) {
+        for (int c = 8; c >= 3; c--) {
             y.darn(c, 0, 0, 30);
             y.years(1);
         }
         Edges.due("each of another year", y.orders(511, -1), 1);
-        for (int i = 0; i < 6; i++) Edges.due("the " + i + "-th", y.orders(511, i), 10 * (5 - i));
+        for (int i = 0; i < 6; i++) Edges.due("the " + i + "-th", y.orders(511, i), 10 * (8 - i));
+    }
+
+    static void promise26_onlyTheDarnsOfTheCells() {
+        DarnedSock x = new DarnedSock();
+        for (int c = 0; c < 9; c++) {
+            x.darn(c, 0, 0, 30);
+            x.years(1);
+        }
+        for (int c = 0; c < 9; c++) {
+            Edges.due("cell " + c, x.orders(1 << c, 0), 10 * c);
+            Edges.due("cell " + c + " has no more", x.orders(1 << c, 1), -5);
+        }
+        Edges.due("the last two", x.orders(384, 1), 80);
+        x.darn(0, 0, 0, 30);
+        x.darn(8, 0, 0, 30);
+        Edges.due("two of the last year", x.orders(257, -1), 2);
+        Edges.due("the last of them", x.orders(257, 3), 81);
     }
 
     static void promise26_theFirstByCellsThenPlaces() {
@@ -414,6 +446,38 @@ public final class EdgesSeenTest {
         odds("three darns, three years", x, 3, 10, 1, 1);
         odds("three of three", x, 3, 5, 1, 8);
         odds("three of four", x, 4, 5, 5, 16);
+    }
+
+    static void promise27_eachUnderItByItsOwnThread() {
+        DarnedSock x = one(0, 3, 1);
+        x.darn(0, 0, 0, 2);
+        x.darn(0, 0, 0, 1);
+        odds("six years of wear", x, 5, 10, 0, 1);
+        odds("six years of wear", x, 6, 10, 1, 1);
+        odds("six of six", x, 6, 5, 1, 64);
+        odds("six of seven", x, 7, 5, 1, 16);
+    }
+
+    static void promise27_aMothedOneUnderItByTheYearInWhichItIsUppermost() {
+        DarnedSock x = one(4, 4, 0);
+        x.darn(0, 2, 0, 1);
+        odds("a scrap of 1 in year 0, mothed of 4 in years 1, 2", x, 3, 5, 1, 8);
+        DarnedSock y = one(4, 2, 0);
+        y.darn(0, 2, 0, 1);
+        odds("a scrap of 1, then mothed of 2 in a year of no 3", y, 2, 5, 1, 4);
+        odds("behind 3 years: two of them at least", y, 3, 5, 1, 2);
+        odds("behind 4 years: not the years 2 and 3 alone, nor 1 and 3, nor 0 and 3", y, 4, 5, 1, 2);
+    }
+
+    static void promise27_ofEachCell() {
+        for (int c = 0; c < 9; c++) {
+            DarnedSock x = new DarnedSock();
+            x.darn(c, 0, 0, 2);
+            for (int other = 0; other < 9; other++) {
+                x.odds(other, 2, 5);
+                Edges.fraction("cell " + other, x, 1, other == c ? 4 : 1);
+            }
+        }
     }
 
     static void promise27_badLeavesTheFraction() {

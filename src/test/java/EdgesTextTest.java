@@ -125,6 +125,30 @@ public final class EdgesTextTest {
         fault("1".repeat(150), 0);
     }
 
+    static void promise10_aTokenThatEndsTheTextOf150Bytes() {
+        String most = "sock1;" + "wear1 1;".repeat(17);
+        fault(most + "    wear", 150);
+        fault(most + "    darn", 150);
+        fault(most + "    weax", 146);
+        fault(most + "    xear", 146);
+        fault(most + "    sock", 146);
+        fault(most + "wear1 11", 150);
+        fault(most + "wear1111", 146);
+        fault(most + "wear1 ; ", 148);
+        reads(most + "        ", 18);
+    }
+
+    static void promise10_bytesBehindTheTextsLengthAreNone() {
+        String[][] cases = {{"sock 1;wears", "sock 1;wear"}, {"sock 1;wear 1 123", "sock 1;wear 1 12"}, {"sock 1;", "sock 1"}, {"sock 1;        x", "sock 1; "}};
+        int[] answers = {-21, -26, -16, 1};
+        for (int i = 0; i < cases.length; i++) {
+            DarnedSock x = Edges.type(new DarnedSock(), cases[i][0]);
+            x.clear();
+            Edges.type(x, cases[i][1]);
+            Edges.due("\"" + cases[i][1] + "\" typed over \"" + cases[i][0] + "\"", x.read(), answers[i]);
+        }
+    }
+
     static void promise10_blanksStandBetween() {
         reads("  sock  7  ;  wear  8  5  ;  ", 2);
         reads("sock7;wear8 5;darn0 0 0 1;", 3);
