@@ -1,3 +1,4 @@
+import java.lang.reflect.Array;
 import java.lang.reflect.Constructor;
 import java.lang.reflect.Field;
 import java.lang.reflect.Method;
@@ -5,6 +6,8 @@ import java.lang.reflect.Modifier;
 import java.nio.file.Files;
 import java.nio.file.Path;
 import java.util.ArrayList;
+import java.util.Collections;
+import java.util.IdentityHashMap;
 import java.util.List;
 import java.util.Set;
 import java.util.TreeSet;
@@ -38,6 +41,7 @@ public final class RulesTest {
         face();
         shapes();
         text(Files.readString(SOURCE));
+        room(Files.readString(SOURCE));
         System.out.println(wrong == 0 ? "the rules hold" : wrong + " rules are broken");
         if (wrong != 0) System.exit(1);
     }
@@ -65,6 +69,9 @@ public final class RulesTest {
         for (Field f : it.getDeclaredFields()) {
             boolean constant = Set.of("NONE", "BAD", "NO", "FULL").contains(f.getName());
             hold(constant ? Modifier.isPublic(f.getModifiers()) : Modifier.isPrivate(f.getModifiers()), "1: " + f);
+        }
+        for (Class<?> inside : it.getDeclaredClasses()) {
+            for (Method m : inside.getDeclaredMethods()) hold(!names.contains(m.getName()), "1: a method inside with a public one's name: " + m);
         }
     }
 
@@ -102,5 +109,39 @@ public final class RulesTest {
             long lines = source.substring(head.end(), Math.max(end, head.end())).lines().count();
             hold(lines <= 60, "11: " + lines + " lines in " + head.group().trim());
         }
+    }
+
+    /** What a run may make is counted: a sock makes its rows once, and no call makes more but an image. */
+    private static void room(String source) throws Exception {
+        DarnedSock x = new DarnedSock();
+        x.image(0);
+        x.image(1);
+        Set<Object> met = Collections.newSetFromMap(new IdentityHashMap<>());
+        long parts = partsOf(x, met);
+        hold(met.size() <= 40, "12: objects of a sock with both images: " + met.size());
+        hold(parts <= 5000, "12: fields and elements of a sock with both images: " + parts);
+        for (String line : source.split("\n")) {
+            boolean field = line.matches(" {4,8}(private )?final .* = new .*;");
+            boolean image = line.trim().equals("image = new State();");
+            hold(field || image || !line.contains("new "), "12: made in a call: " + line.trim());
+        }
+    }
+
+    private static long partsOf(Object it, Set<Object> met) throws Exception {
+        if (it == null || !met.add(it)) return 0;
+        long parts = 0;
+        if (it.getClass().isArray()) {
+            parts = Array.getLength(it);
+            boolean numbers = it.getClass().getComponentType().isPrimitive();
+            for (int i = 0; !numbers && i < Array.getLength(it); i++) parts += partsOf(Array.get(it, i), met);
+            return parts;
+        }
+        for (Field f : it.getClass().getDeclaredFields()) {
+            if (Modifier.isStatic(f.getModifiers())) continue;
+            parts++;
+            f.setAccessible(true);
+            if (!f.getType().isPrimitive()) parts += partsOf(f.get(it), met);
+        }
+        return parts;
     }
 }
